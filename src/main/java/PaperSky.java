@@ -245,8 +245,11 @@ public final class PaperSky {
                 || !within(h, 0, Sky.HIGHEST) || k < -1) {
             return BAD;
         }
-        foretold.weighRest(now.kinds[office], land, n, h);
-        return k == -1 ? foretold.fewestSheets(office) : foretold.sheetsAhead(office, n, k);
+        int plan = foretold.fewestPlan(office, land, n, h);
+        if (plan == Foretold.NO_PLAN || k >= n) {
+            return NONE;
+        }
+        return k == -1 ? Foretold.sheetsOf(plan) : Foretold.sheetsAhead(plan, n, k);
     }
 
     public int petition(int land, int row, int i, int n) {
@@ -621,7 +624,7 @@ public final class PaperSky {
     /** Which kind is which other one, too. */
     private static final class Kinds {
         static final int OFFICE = 0, BUREAU = 1, FRUGAL = 2, LETTERS = 3, DAMP = 4, ARCHIVE = 5;
-        static final int MOST = 6;
+        static final int HOW_MANY = 6;
         /** By kind: the kind that it is, too. */
         private static final int[] NEAREST = {0, 0, 1, 1, 0, 4};
 
@@ -638,12 +641,12 @@ public final class PaperSky {
         }
 
         static int nearest(int kind) {
-            return kind >= 0 && kind < MOST ? NEAREST[kind] : OFFICE;
+            return kind >= 0 && kind < HOW_MANY ? NEAREST[kind] : OFFICE;
         }
 
         static boolean isSuch(int kind, int wanted) {
             int such = kind;
-            for (int i = 0; i < MOST && such != wanted && such != OFFICE; i++) {
+            for (int i = 0; i < HOW_MANY && such != wanted && such != OFFICE; i++) {
                 such = nearest(such);
             }
             return such == wanted;
@@ -826,14 +829,20 @@ public final class PaperSky {
     private static final class Foretold {
         static final int FARTHEST = 60, LONGEST = 12, ALL_CASES = 10000;
         private static final int MOST_SHEETS = 3, HEIGHTS = Sky.HIGHEST + 1;
-        private static final int NEVER = 1000000;
+        /** How many rows of 12 hours there are, with 0 to 3 sheets ahead of each. */
+        private static final int PLAN_ROWS = 1 << 2 * LONGEST;
+        static final int NO_PLAN = 2147483647;
 
         private final Sky now;
         final Sky later = new Sky();
         final int[] firstWay = new int[LONGEST];
         final int[] stays = new int[Sky.LANDS];
-        /** By hour, land and height: the fewest sheets from there on, NEVER if none do. */
-        private final int[][] rest = new int[LONGEST + 1][Sky.LANDS * HEIGHTS];
+        /**
+         * By land and height, of one hour and of the next, in turn: a plan, which is the sum of
+         * its sheets above the row of them as base-4 figures, so that the least plan is the first
+         * row of the fewest sheets.
+         */
+        private final int[][] plans = new int[2][Sky.LANDS * HEIGHTS];
 
         Foretold(Sky now) {
             this.now = now;
@@ -888,64 +897,54 @@ public final class PaperSky {
             return Integer.bitCount(later.officesIn(land));
         }
 
-        /** From the last hour back, so that each hour's choice knows what it leaves to do. */
-        void weighRest(int kind, int wantedLand, int n, int least) {
+        /** The least plan, hour by hour, for each place that can be come to. */
+        int fewestPlan(int office, int land, int n, int least) {
+            Arrays.fill(plans[0], NO_PLAN);
+            plans[0][now.lands[office] * HEIGHTS + now.heights[office]] = 0;
+            for (int step = 0; step < n; step++) {
+                spreadAll(office, plans[step & 1], plans[step + 1 & 1]);
+            }
+            int fewest = NO_PLAN;
+            for (int height = least; height < HEIGHTS; height++) {
+                fewest = Math.min(fewest, plans[n & 1][land * HEIGHTS + height]);
+            }
+            return fewest;
+        }
+
+        private void spreadAll(int office, int[] here, int[] behind) {
+            Arrays.fill(behind, NO_PLAN);
             for (int land = 0; land < Sky.LANDS; land++) {
                 for (int height = 0; height < HEIGHTS; height++) {
-                    boolean fits = land == wantedLand && height >= least;
-                    rest[n][land * HEIGHTS + height] = fits ? 0 : NEVER;
-                }
-            }
-            for (int step = n - 1; step >= 0; step--) {
-                Arrays.fill(rest[step], NEVER);
-                for (int height = 0; height < HEIGHTS; height++) {
-                    weighHeight(kind, height, rest[step], rest[step + 1]);
+                    int plan = here[land * HEIGHTS + height];
+                    if (plan != NO_PLAN) {
+                        spread(office, land, height, plan, behind);
+                    }
                 }
             }
         }
 
-        private void weighHeight(int kind, int height, int[] here, int[] behind) {
-            for (int sheets = 0; sheets <= MOST_SHEETS; sheets++) {
-                int next = now.sunk(Sky.lifted(kind, height, sheets));
-                int drift = now.driftAt(next);
-                for (int land = 0; land < Sky.LANDS; land++) {
-                    int all = sheets + behind[Sky.moved(land, drift) * HEIGHTS + next];
-                    int at = land * HEIGHTS + height;
-                    here[at] = Math.min(here[at], all);
-                }
+        private void spread(int office, int land, int height, int plan, int[] behind) {
+            int most = Math.min(MOST_SHEETS, now.files[office] - sheetsOf(plan));
+            int high = height;
+            for (int sheets = 0; sheets <= most; sheets++) {
+                int next = now.sunk(high);
+                int at = now.carried(land, next) * HEIGHTS + next;
+                behind[at] = Math.min(behind[at], longer(plan, sheets));
+                high = Sky.lifted(now.kinds[office], high, 1);
             }
         }
 
-        /** As weighRest left it for this office. */
-        int fewestSheets(int office) {
-            int fewest = rest[0][now.lands[office] * HEIGHTS + now.heights[office]];
-            return fewest <= now.files[office] ? fewest : NONE;
+        private static int longer(int plan, int sheets) {
+            int row = plan % PLAN_ROWS;
+            return (sheetsOf(plan) + sheets) * PLAN_ROWS + row * 4 + sheets;
         }
 
-        int sheetsAhead(int office, int n, int k) {
-            if (k >= n || fewestSheets(office) == NONE) {
-                return NONE;
-            }
-            int land = now.lands[office];
-            int height = now.heights[office];
-            int sheets = 0;
-            for (int step = 0; step <= k; step++) {
-                sheets = firstOfFewest(now.kinds[office], land, height, step);
-                height = now.sunk(Sky.lifted(now.kinds[office], height, sheets));
-                land = now.carried(land, height);
-            }
-            return sheets;
+        static int sheetsOf(int plan) {
+            return plan / PLAN_ROWS;
         }
 
-        private int firstOfFewest(int kind, int land, int height, int step) {
-            for (int sheets = 0; sheets < MOST_SHEETS; sheets++) {
-                int next = now.sunk(Sky.lifted(kind, height, sheets));
-                int all = sheets + rest[step + 1][now.carried(land, next) * HEIGHTS + next];
-                if (all == rest[step][land * HEIGHTS + height]) {
-                    return sheets;
-                }
-            }
-            return MOST_SHEETS;
+        static int sheetsAhead(int plan, int n, int k) {
+            return plan >> 2 * (n - 1 - k) & 3;
         }
 
         int hoursToPass(int land, int[] readers, int i, int n) {
@@ -1141,14 +1140,14 @@ public final class PaperSky {
 
         private int bodyFor(int one, int what) {
             int kind = now.kinds[one];
-            for (int i = 0; i < Kinds.MOST && toldBody(kind, what) == 0; i++) {
+            for (int i = 0; i < Kinds.HOW_MANY && toldBody(kind, what) == 0; i++) {
                 kind = Kinds.nearest(kind);
             }
             return toldBody(kind, what);
         }
 
         private static int toldBody(int kind, int what) {
-            if (kind < 0 || kind >= Kinds.MOST) {
+            if (kind < 0 || kind >= Kinds.HOW_MANY) {
                 return 0;
             }
             return what == ASK_SIZE ? SIZE_BODIES[kind] : MARK_BODIES[kind];

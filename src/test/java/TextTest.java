@@ -10,6 +10,7 @@ public final class TextTest {
         faultsOfLaw();
         faultsOfOffices();
         stays();
+        shorterBehindLonger();
         C.end("TextTest");
     }
 
@@ -138,6 +139,24 @@ public final class TextTest {
         fault(five + "7", 1, 46);
         String long5 = "w00,00,00,00,00;b00,00,00;b00,00,00;b00,00,00;b00,00,00;b00,00,00;";
         C.due("two figures each", Check.tell(new PaperSky(), long5), 5);
+    }
+
+    /** Bytes of an earlier text must not be read behind the end of a shorter one. */
+    private static void shorterBehindLonger() {
+        String text = LAW + "b9,20,60;f1,12,34;";
+        for (int n = 0; n < text.length(); n++) {
+            PaperSky x = Check.skyOf(text);
+            boolean whole = n == (LAW + "b9,20,60;").length();
+            C.due("the first " + n, Check.tell(x, text.substring(0, n)), whole ? 1 : -1000100 - n);
+            C.due("offices", x.count(1), whole ? 1 : 2);
+        }
+        PaperSky x = Check.skyOf("w2,2,2,2,0;b1,0,0;b2,0,0;b3,0,0;b4,9,0;b5,9,9;");
+        x.burn(4, 3);
+        Check.tell(x, "w2,2,2,2,0;b9,0,0;");
+        C.due("lands of one", x.drawn(0, 1, 1), 9);
+        C.due("burnt", x.count(4), 0);
+        C.due("above 0", x.count(5), 0);
+        C.due("none in 5", x.land(5), 0);
     }
 
     private static void stays() {

@@ -193,6 +193,11 @@ public final class OddsBoundsTest {
         PaperSky x = Check.skyOf("w2,2,2,2,0;b9,0,0;b8,0,0;b7,0,0;b3,0,0;b4,0,0;");
         C.due("3", x.rule(60, 0), 3);
         C.due("60", x.rule(60, 1), 60);
+        for (int land = 0; land <= 9; land++) {
+            PaperSky z = Check.skyOf("w2,2,2,2,0;b" + land + ",0,0;b" + (9 - land) + ",0,0;b" + land + ",0,0;b0,0,0;");
+            C.due("two in " + land, z.rule(7, 0), land == 9 ? 0 : land);
+            C.due("two each hour", z.rule(7, 1), land == 0 ? 21 : 14);
+        }
         PaperSky y = Check.skyOf("w1,2,2,2,0;b1,1,0;b9,0,0;");
         C.due("0, where one comes to", y.rule(1, 0), 0);
         C.due("1", y.rule(1, 1), 1);

@@ -182,6 +182,19 @@ public final class TextBoundsTest {
             }
         }
         good(text, 2);
+        theEndAheadOfOlderBytes(text);
+    }
+
+    /** What an earlier, longer text left behind the end is no part of the tape. */
+    private static void theEndAheadOfOlderBytes(String text) {
+        for (int n = 0; n < text.length(); n++) {
+            for (String older : new String[] {text, "9".repeat(100), text.substring(0, n) + text.charAt(n)}) {
+                PaperSky x = new PaperSky();
+                Check.tell(x, older);
+                boolean whole = text.substring(0, n).endsWith("60;");
+                C.due("the first " + n, Check.tell(x, text.substring(0, n)), whole ? 1 : -1000100 - n);
+            }
+        }
     }
 
     /** "3 an office more than there is room for (its letter)"; "OFFICES 0 .. 4, 5 at most". */

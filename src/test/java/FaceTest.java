@@ -58,6 +58,10 @@ public final class FaceTest {
             }
         }
         C.isTrue("constants " + constants, constants.equals(Set.of("NONE", "BAD", "STATE", "FULL")));
+        C.due("NONE", PaperSky.NONE, -1000000);
+        C.due("BAD", PaperSky.BAD, -1000001);
+        C.due("STATE", PaperSky.STATE, -1000002);
+        C.due("FULL", PaperSky.FULL, -1000003);
     }
 
     private static void sizes(Class<?> one) {
@@ -92,7 +96,21 @@ public final class FaceTest {
         while (imports.find()) {
             C.isTrue(imports.group(), imports.group().equals("import java.util.Arrays;"));
         }
+        headings(text);
         lengths(text);
+    }
+
+    /** The face in the document's order, with what its interface says ahead of some calls. */
+    private static void headings(String text) {
+        StringBuilder order = new StringBuilder();
+        Matcher m = Pattern.compile("(?m)^    (?:// ---- ([a-z ]+)|public (?:int|long) (\\w+)\\(.*)$").matcher(text);
+        while (m.find()) {
+            order.append(m.group(1) != null ? "[" + m.group(1) + "] " : m.group(2) + " ");
+        }
+        C.isTrue("the order of the face: " + order, order.toString().startsWith("[rows] row set copy drop"
+            + " [what is told] feed sky fault undo [what is done] hours burn send wind office land"
+            + " [foretold] ahead down meet over above petition ash who rule lasts kept turned drawn image restore"
+            + " [asked] kind as ask trace count status "));
     }
 
     /** A method opens at one or two levels of indent, and closes at the same one. */
